@@ -1,0 +1,50 @@
+/** Counts the answers that are not as due, promise by promise. */
+final class Due {
+    private final String name;
+    private String promise = "";
+    private int asDue = 0;
+    private int wrong = 0;
+
+    Due(String name) {
+        this.name = name;
+    }
+
+    /** What follows tests this promise. */
+    void promise(String promise) {
+        this.promise = promise;
+    }
+
+    void is(String call, long got, long want) {
+        if (got == want) {
+            asDue++;
+            return;
+        }
+        wrong++;
+        if (wrong <= 40) {
+            System.out.println("  " + promise + ": " + call + " answered " + got + ", due is " + want);
+        }
+    }
+
+    /** Ends the program: with 1, if an answer was wrong or none was looked at. */
+    void end() {
+        System.out.println("  " + name + ": " + asDue + " answers as due, " + wrong + " not");
+        System.exit(wrong == 0 && asDue > 0 ? 0 : 1);
+    }
+
+    /** Feeds a whole text and reads it. */
+    static int read(ShapeMoves x, String text) {
+        for (int i = 0; i < text.length(); i++) {
+            x.feed(text.charAt(i));
+        }
+        return x.read();
+    }
+
+    /** A new object with the points of a set-up. */
+    static ShapeMoves shape(String text) {
+        ShapeMoves x = new ShapeMoves();
+        if (read(x, text) < 0) {
+            throw new IllegalStateException("no set-up: " + text);
+        }
+        return x;
+    }
+}
