@@ -14,6 +14,7 @@ public final class ClassesTest {
         sign();
         has();
         active();
+        allFollowTheShape();
         due.end();
     }
 
@@ -189,5 +190,42 @@ public final class ClassesTest {
         actives(CORNER, 1, 1, 2);
         due.is("what -1", new ShapeMoves().active(-1), -1);
         due.is("what 3", new ShapeMoves().active(3), -1);
+    }
+
+    private static void allFollowTheShape() {
+        ShapeMoves x = new ShapeMoves();
+        due.promise("all follow the shape: no points");
+        askAll(x, 0, 4, 1);
+        due.promise("all follow the shape: point");
+        x.point(0, 0, 1, 0);
+        askAll(x, 1, 4, 1);
+        x.point(0, 0, -1, 0);
+        askAll(x, 2, 8, 1);
+        due.promise("all follow the shape: mark");
+        x.mark(0, 1);
+        askAll(x, 2, 4, 2);
+        due.promise("all follow the shape: read");
+        Due.read(x, "m00");
+        askAll(x, 2, 8, 1);
+        due.promise("all follow the shape: drop");
+        x.drop(1);
+        askAll(x, 1, 4, 1);
+        due.promise("all follow the shape: undo");
+        x.image();
+        x.mark(0, 3);
+        x.point(1, 2, 3, 0);
+        askAll(x, 2, 1, 2);
+        x.undo();
+        askAll(x, 1, 4, 1);
+    }
+
+    /** How many stay by move 0, how many signs there are, and of POINTS the first of them. */
+    private static void askAll(ShapeMoves x, int stay, int signs, int orbits) {
+        due.is("motion(0, 0)", x.motion(0, 0), stay);
+        due.is("told(6)", x.told(6), signs);
+        due.is("sign(" + (signs - 1) + ", 0)", x.sign(signs - 1, 0), 1);
+        due.is("sign(" + signs + ", 0)", x.sign(signs, 0), 0);
+        due.is("has(0, 0): an orbit counts once", x.has(0, 0), stay == 0 ? 0 : orbits);
+        due.is("active: each is one or the other", x.active(0) | x.active(1) | x.active(2), (1 << signs) - 1);
     }
 }

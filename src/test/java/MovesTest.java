@@ -156,6 +156,9 @@ public final class MovesTest {
         due.is("told(-1)", x.told(-1), -1);
         due.is("told(8)", x.told(8), -1);
         due.is("no points: nearest", x.told(7), -5);
+        due.is("no points: not handed", x.told(4), 0);
+        x.point(1, 2, 3, 0);
+        due.is("then handed", x.told(4), 1);
     }
 
     private static void nearest() {
@@ -163,6 +166,8 @@ public final class MovesTest {
         due.is("fewest ahead of least", Due.shape("p1,0,0,0;p-1,0,0,1;p0,1,0,0").told(7), 2);
         due.is("of several the least", Due.shape("p1,2,3,0").told(7), 1);
         due.is("by marks", Due.shape("p1,0,0,0;p0,1,0,0;p0,0,1,1;p0,0,0,2").told(7), 1);
+        due.is("all eight are moved by every other move", Due.shape("p1,2,3,0;p-1,-2,3,0;p-1,2,-3,0;p1,-2,-3,0;"
+                + "p-2,1,3,0;p2,-1,3,0;p2,1,-3,0;p-2,-1,-3,0").told(7), 1);
         due.is("far on", Due.shape("p1,2,3,0;p1,3,2,0;p2,1,3,0;p2,3,1,0;p3,1,2,1").told(7), 8);
     }
 

@@ -11,6 +11,7 @@ public final class SeenTest {
         mean();
         event();
         after();
+        afterOfEight();
         afterIsAsked();
         book();
         looked();
@@ -196,6 +197,24 @@ public final class SeenTest {
         z.event(0, 2);
         z.event(3, 0);
         afterAll("the shape alone counts", z, 4, 4, 1);
+        ShapeMoves w = Due.shape("p1,0,0,0;p-1,0,0,3");
+        w.event(1, 3);
+        afterAll("as the one that had 0 ahead", w, 16, 10, 1);
+    }
+
+    private static void afterOfEight() {
+        due.promise("26 after, eight points");
+        ShapeMoves x = Due.shape("p1,1,1,0;p1,1,-1,0;p1,-1,1,0;p1,-1,-1,0;p-1,1,1,0;p-1,1,-1,0;p-1,-1,1,0");
+        x.point(-1, -1, -1, 4);
+        afterAll("a corner is marked", x, 6, 3, 4);
+        x.event(2, 3);
+        afterAll("another one is", x, 6, 3, 4);
+        x.event(1, 4);
+        afterAll("none is", x, 48, 10, 1);
+        x.event(3, 2);
+        afterAll("all are", x, 48, 10, 1);
+        x.event(0, 7);
+        afterAll("the last is none", x, 6, 3, 3);
     }
 
     private static void afterIsAsked() {

@@ -10,6 +10,7 @@ public final class TapesTest {
         judgeWhole();
         image();
         undo();
+        undoOfEight();
         undoLeaves();
         count();
         tape();
@@ -163,6 +164,26 @@ public final class TapesTest {
         due.is("its mark", x.of(0, 3), 0);
     }
 
+    private static void undoOfEight() {
+        due.promise("31 undo, eight points");
+        ShapeMoves x = Due.shape("p1,1,1,0;p1,1,-1,1;p1,-1,1,2;p1,-1,-1,3;p-1,1,1,4;p-1,1,-1,0;p-1,-1,1,1");
+        x.point(-1, -1, -1, 2);
+        due.is("eight", x.image(), 8);
+        for (int left = 7; left >= 0; left--) {
+            x.drop(0);
+        }
+        x.point(0, 0, 0, 0);
+        due.is("all 48 keep it", x.told(1), 48);
+        due.is("eight again", x.undo(), 8);
+        due.is("the group is found anew", x.told(1), 2);
+        for (int i = 0; i < 8; i++) {
+            due.is("x of " + i, x.of(i, 0), i < 4 ? 1 : -1);
+            due.is("y of " + i, x.of(i, 1), i % 4 < 2 ? 1 : -1);
+            due.is("z of " + i, x.of(i, 2), i % 2 == 0 ? 1 : -1);
+            due.is("mark of " + i, x.of(i, 3), i % 5);
+        }
+    }
+
     private static void undoLeaves() {
         due.promise("31 undo, text and tapes");
         ShapeMoves x = new ShapeMoves();
@@ -220,6 +241,7 @@ public final class TapesTest {
         due.is("holds nothing still", x.item(0, 0, 0), -11);
         for (int sort = 0; sort < 5; sort++) {
             due.is("sort " + sort, x.tape(sort, sort, 60), 1);
+            due.is("first item", x.item(sort, 0, 1), 1);
             due.is("last item", x.item(sort, 59, 1), 1);
             due.is("behind it", x.item(sort, 60, 1), -13);
             due.is("refused", x.tape(sort, sort, 61), -2);
