@@ -1,3 +1,6 @@
+import java.util.function.Consumer;
+import java.util.function.ToLongFunction;
+
 /** Counts the answers that are not as due, promise by promise. */
 final class Due {
     private final String name;
@@ -25,6 +28,30 @@ final class Due {
         }
     }
 
+    /**
+     * The call answers so, and changes nothing: what it was called on then tells the same of
+     * itself as another object with the same set-up that wasn't called.
+     */
+    void keeps(String call, Consumer<ShapeMoves> setUp, ToLongFunction<ShapeMoves> asked, long want) {
+        ShapeMoves called = new ShapeMoves();
+        ShapeMoves other = new ShapeMoves();
+        setUp.accept(called);
+        setUp.accept(other);
+        is(call, asked.applyAsLong(called), want);
+        isSame(call + ", what is there then", Whole.of(called), Whole.of(other));
+    }
+
+    void isSame(String call, String got, String want) {
+        if (got.equals(want)) {
+            asDue++;
+            return;
+        }
+        wrong++;
+        if (wrong <= 40) {
+            System.out.println("  " + promise + ": " + call + " is" + got + "\n    due is" + want);
+        }
+    }
+
     /** Ends the program: with 1, if an answer was wrong or none was looked at. */
     void end() {
         System.out.println("  " + name + ": " + asDue + " answers as due, " + wrong + " not");
@@ -33,9 +60,7 @@ final class Due {
 
     /** Feeds a whole text and reads it. */
     static int read(ShapeMoves x, String text) {
-        for (int i = 0; i < text.length(); i++) {
-            x.feed(text.charAt(i));
-        }
+        SetUps.feed(x, text);
         return x.read();
     }
 

@@ -34,6 +34,7 @@ public final class MovesTest {
         due.is("the last two", x.product(47, 47), 0);
         // a point shows that b comes first
         for (int a = 0; a < 48; a++) {
+            x = new ShapeMoves();
             for (int b = 0; b < 48; b++) {
                 int[] behind = PlainModel.takePlace(a, PlainModel.takePlace(b, new int[] {1, 2, 3}));
                 int[] at = PlainModel.takePlace(x.product(a, b), new int[] {1, 2, 3});

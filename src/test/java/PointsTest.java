@@ -249,6 +249,9 @@ public final class PointsTest {
             2, 35, 35, 35, 34};
         for (int i = 0; i < texts.length; i++) {
             int want = faults[i] < 0 ? 0 : -10 - faults[i];
+            if (i % 20 == 19) {
+                x = Due.shape("p1,1,1,1");
+            }
             due.is("'" + texts[i] + "'", Due.read(x, texts[i]), want);
             due.is("empty then", x.count(3), 0);
         }

@@ -18,7 +18,7 @@ public final class SymmetricShapesTest {
 
     private final Random random;
     private final PlainModel model = new PlainModel();
-    private final ShapeMoves x = new ShapeMoves();
+    private ShapeMoves x = new ShapeMoves();
 
     private SymmetricShapesTest(int seed) {
         random = new Random(seed);
@@ -99,7 +99,16 @@ public final class SymmetricShapesTest {
         }
     }
 
+    /** Another object with the model's points: each is used for at most 512 calls. */
+    private void renew() {
+        x = new ShapeMoves();
+        for (int point = 0; point < model.told(0); point++) {
+            x.point(model.of(point, 0), model.of(point, 1), model.of(point, 2), model.of(point, 3));
+        }
+    }
+
     private void askGroup() {
+        renew();
         for (int what = -1; what <= 8; what++) {
             due.is("told(" + what + ")", x.told(what), model.told(what));
         }
@@ -116,6 +125,9 @@ public final class SymmetricShapesTest {
 
     private void askMoves() {
         for (int move = 0; move < 48; move++) {
+            if (move % 12 == 0) {
+                renew();
+            }
             for (int what = 0; what < 4; what++) {
                 due.is("move(" + move + ", " + what + ")", x.move(move, what), model.move(move, what));
             }
@@ -132,6 +144,7 @@ public final class SymmetricShapesTest {
     }
 
     private void askSigns() {
+        renew();
         for (int k = 0; k <= 8; k++) {
             for (int move = 0; move < 48; move++) {
                 due.is("sign(" + k + ", " + move + ")", x.sign(k, move), model.sign(k, move));
@@ -146,6 +159,7 @@ public final class SymmetricShapesTest {
     }
 
     private void askPoints() {
+        renew();
         for (int row = 0; row < 1 + random.nextInt(4); row++) {
             int move = random.nextInt(3) > 0 ? model.group(random.nextInt(model.told(1))) : random.nextInt(48);
             boolean is = random.nextInt(4) > 0 == (model.move(move, 2) == 1);
