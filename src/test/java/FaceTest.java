@@ -1,13 +1,10 @@
-import java.io.IOException;
 import java.lang.reflect.Field;
 import java.lang.reflect.Method;
 import java.lang.reflect.Modifier;
-import java.nio.file.Files;
-import java.nio.file.Path;
 import java.util.Arrays;
 import java.util.TreeSet;
 
-/** The class's face is the document's, and its text keeps to what of LANGUAGE.md can be seen in it. */
+/** The class's face is the document's: its calls, its constants, and nothing else. */
 public final class FaceTest {
     private static final String[] FACE = {
         "int point(int, int, int, int)", "int mark(int, int)", "int drop(int)", "int of(int, int)",
@@ -18,17 +15,12 @@ public final class FaceTest {
         "int event(int, int)", "int after(int)", "int book(int, int)", "int looked()", "int judge(int, int)",
         "int image()", "int undo()", "int count(int)", "int tape(int, int, int)", "int item(int, int, long)",
         "long peek(int, int)", "int shift(int, int, int, int, int)"};
-    private static final String[] NOT_IN_THE_TEXT = {
-        "throw", "throws", "try", "catch", "finally", "synchronized", "assert", "import", "package", "->", "::",
-        "volatile", "transient", "native", "protected", "Exact(", "Object", "String", "Math.random", "Thread",
-        "System.out", "System.nano", "System.current", "hashCode", "equals", "toString", "strictfp", "goto"};
 
     private static final Due due = new Due("FaceTest");
 
-    public static void main(String[] args) throws IOException {
+    public static void main(String[] args) {
         methods();
         fields();
-        text();
         due.end();
     }
 
@@ -74,19 +66,5 @@ public final class FaceTest {
             due.is(inside + " is private and static", inside.getModifiers() & (Modifier.PRIVATE | Modifier.STATIC),
                     Modifier.PRIVATE | Modifier.STATIC);
         }
-    }
-
-    private static void text() throws IOException {
-        due.promise("LANGUAGE.md");
-        String text = Files.readString(Path.of("src/main/java/ShapeMoves.java"));
-        String code = text.replaceAll("(?s)/\\*.*?\\*/", " ").replaceAll("//[^\n]*", " ");
-        for (String word : NOT_IN_THE_TEXT) {
-            String edge = Character.isLetter(word.charAt(0)) ? "(?<![A-Za-z])" : "";
-            String end = Character.isLetter(word.charAt(word.length() - 1)) ? "(?![A-Za-z])" : "";
-            boolean isThere = java.util.regex.Pattern.compile(edge + java.util.regex.Pattern.quote(word) + end)
-                    .matcher(code).find();
-            due.is("'" + word + "' stands in it", isThere ? 1 : 0, 0);
-        }
-        due.is("its signs are 1 to 127", text.chars().allMatch(c -> c > 0 && c < 128) ? 1 : 0, 1);
     }
 }
